@@ -1,0 +1,52 @@
+/** Counts the answers that are not the ones due, and prints each. */
+final class Due {
+    interface Call {
+        void run();
+    }
+
+    private static int asked = 0;
+    private static int wrong = 0;
+
+    private Due() {
+    }
+
+    static void same(String what, long got, long want) {
+        asked++;
+        if (got != want) {
+            tell(what + " answered " + got + ", due is " + want);
+        }
+    }
+
+    static void same(String what, Object got, Object want) {
+        asked++;
+        if (!got.equals(want)) {
+            tell(what + " answered " + got + ", due is " + want);
+        }
+    }
+
+    /** The class must be that very one: a class below it would be the machine's own exception. */
+    static void thrown(String what, Class<? extends RuntimeException> want, Call call) {
+        asked++;
+        Class<?> got = null;
+        try {
+            call.run();
+        } catch (RuntimeException e) {
+            got = e.getClass();
+        }
+        if (got != want) {
+            tell(what + " throws " + got + ", due is " + want);
+        }
+    }
+
+    static void finish() {
+        System.out.println(asked + " answers, " + wrong + " of them wrong");
+        if (wrong != 0) {
+            System.exit(1);
+        }
+    }
+
+    private static void tell(String text) {
+        wrong++;
+        System.out.println(text);
+    }
+}
