@@ -1,5 +1,3 @@
-import java.util.Arrays;
-
 /**
  * Weights of a network put into bytes and taken out again.
  *
@@ -57,8 +55,10 @@ public final class WeightFile {
         this.p = p;
         this.many = many;
         steps = 0;
-        Arrays.fill(highs, 0, 2 * many, 0);
-        Arrays.fill(lows, 0, 2 * many, 0L);
+        for (int n = 0; n < 2 * many; n++) {
+            highs[n] = 0;
+            lows[n] = 0;
+        }
     }
 
     public void put(int which, int i, int high, long low)

@@ -148,6 +148,12 @@ public final class PromisesTest {
             Due.thrown(at + " one above", ARGUMENT, () -> put(x, 1, 0, limit.add(BigInteger.ONE)));
             Due.thrown(at + " greatest of all", ARGUMENT, () -> x.put(0, 0, MAX, -1));
             Due.thrown(at + " least of all", ARGUMENT, () -> x.put(0, 0, MIN, 0));
+            long copied = 15 + p < 62 ? 1L << (15 + p) : 0;
+            Due.thrown(at + " high 65536, copied in low", ARGUMENT, () -> x.put(0, 0, 65536, 65536 * copied));
+            if (p < 47) {
+                Due.thrown(at + " high 1, copied in low", ARGUMENT, () -> x.put(0, 0, 1, copied));
+                Due.thrown(at + " high -2, copied in low", ARGUMENT, () -> x.put(0, 0, -2, -2 * copied));
+            }
         }
     }
 
