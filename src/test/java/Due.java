@@ -4,6 +4,8 @@ final class Due {
         void run();
     }
 
+    private static final int MOST_TOLD = 300;
+
     private static int asked = 0;
     private static int wrong = 0;
 
@@ -20,7 +22,7 @@ final class Due {
     static void same(String what, Object got, Object want) {
         asked++;
         if (!got.equals(want)) {
-            tell(what + " answered " + got + ", due is " + want);
+            tell(what + " answered " + cut(got, want) + ", due is " + cut(want, got));
         }
     }
 
@@ -43,6 +45,21 @@ final class Due {
         if (wrong != 0) {
             System.exit(1);
         }
+    }
+
+    /** A long text only round the place where it differs from the other. */
+    private static String cut(Object text, Object other) {
+        String all = text.toString();
+        if (all.length() <= MOST_TOLD) {
+            return all;
+        }
+        String second = other.toString();
+        int same = 0;
+        while (same < Math.min(all.length(), second.length()) && all.charAt(same) == second.charAt(same)) {
+            same++;
+        }
+        int from = Math.max(0, same - MOST_TOLD / 2);
+        return ".. " + all.substring(from, Math.min(all.length(), from + MOST_TOLD)) + " ..";
     }
 
     private static void tell(String text) {

@@ -1,7 +1,7 @@
 import java.math.BigInteger;
 import java.util.zip.CRC32;
 
-/** Each promise of the document by itself: ordinary inputs, the edges it names, wrong inputs. */
+/** Each promise of the document by itself, first of all with ordinary inputs. */
 public final class PromisesTest {
     private static final Class<IllegalArgumentException> ARGUMENT = IllegalArgumentException.class;
     private static final Class<IndexOutOfBoundsException> INDEX = IndexOutOfBoundsException.class;
@@ -71,8 +71,8 @@ public final class PromisesTest {
         Due.same("2: p", x.told(2), 64);
         Due.same("2: steps", x.told(1), 0);
         for (int i : new int[] {0, 1, 2, 3, 4095}) {
-            Due.same("2: weight " + i, number(x, 0, i), BigInteger.ZERO);
-            Due.same("2: velocity " + i, number(x, 1, i), BigInteger.ZERO);
+            Due.same("2: weight " + i, Numbers.at(x, 0, i), BigInteger.ZERO);
+            Due.same("2: velocity " + i, Numbers.at(x, 1, i), BigInteger.ZERO);
         }
         Due.same("2: what is printed stays", printedBytes(x), printed);
         Due.same("2: the tape stays", tapeBytes(x), tape);
@@ -85,16 +85,16 @@ public final class PromisesTest {
         x.put(0, 4095, 1, 2);
         x.put(1, 4095, -1, 2);
         x.take(64, 4096);
-        Due.same("2: last weight anew", number(x, 0, 4095), BigInteger.ZERO);
-        Due.same("2: last velocity anew", number(x, 1, 4095), BigInteger.ZERO);
+        Due.same("2: last weight anew", Numbers.at(x, 0, 4095), BigInteger.ZERO);
+        Due.same("2: last velocity anew", Numbers.at(x, 1, 4095), BigInteger.ZERO);
         x.take(8, 3);
         x.put(0, 2, 0, 76);
         x.put(1, 2, 0, 77);
         x.take(8, 1);
         Due.thrown("2: a parameter that was", INDEX, () -> x.limb(0, 1, 0));
         x.take(8, 3);
-        Due.same("2: weight, more after fewer", number(x, 0, 2), BigInteger.ZERO);
-        Due.same("2: velocity, more after fewer", number(x, 1, 2), BigInteger.ZERO);
+        Due.same("2: weight, more after fewer", Numbers.at(x, 0, 2), BigInteger.ZERO);
+        Due.same("2: velocity, more after fewer", Numbers.at(x, 1, 2), BigInteger.ZERO);
         x.take(0, 0);
         Due.same("2: least parameters", x.told(0), 0);
         Due.same("2: least p", x.told(2), 0);
@@ -116,16 +116,16 @@ public final class PromisesTest {
         x.put(0, 1, 5, 0x8000000000000003L);
         x.put(1, 1, -5, 7);
         BigInteger sixtyFour = BigInteger.ONE.shiftLeft(64);
-        Due.same("3: low is without a sign", number(x, 0, 1),
+        Due.same("3: low is without a sign", Numbers.at(x, 0, 1),
                 sixtyFour.multiply(BigInteger.valueOf(5)).add(BigInteger.ONE.shiftLeft(63)).add(BigInteger.valueOf(3)));
-        Due.same("3: a velocity below 0", number(x, 1, 1),
+        Due.same("3: a velocity below 0", Numbers.at(x, 1, 1),
                 sixtyFour.multiply(BigInteger.valueOf(-5)).add(BigInteger.valueOf(7)));
         for (int i = 0; i <= 2; i += 2) {
-            Due.same("3: weight beside", number(x, 0, i), BigInteger.ZERO);
-            Due.same("3: velocity beside", number(x, 1, i), BigInteger.ZERO);
+            Due.same("3: weight beside", Numbers.at(x, 0, i), BigInteger.ZERO);
+            Due.same("3: velocity beside", Numbers.at(x, 1, i), BigInteger.ZERO);
         }
         x.put(0, 1, 0, 0);
-        Due.same("3: put again", number(x, 0, 1), BigInteger.ZERO);
+        Due.same("3: put again", Numbers.at(x, 0, 1), BigInteger.ZERO);
     }
 
     private static void promise3Edges() {
@@ -133,19 +133,19 @@ public final class PromisesTest {
             WeightFile x = new WeightFile();
             x.take(p, 1);
             String at = "3: p = " + p;
-            BigInteger limit = limit(p);
+            BigInteger limit = Numbers.limit(p);
             BigInteger most = limit.subtract(BigInteger.ONE);
-            put(x, 0, 0, most);
-            Due.same(at + " greatest", number(x, 0, 0), most);
-            put(x, 1, 0, most.negate());
-            Due.same(at + " least", number(x, 1, 0), most.negate());
+            Numbers.put(x, 0, 0, most);
+            Due.same(at + " greatest", Numbers.at(x, 0, 0), most);
+            Numbers.put(x, 1, 0, most.negate());
+            Due.same(at + " least", Numbers.at(x, 1, 0), most.negate());
             for (int shift = 15 + p; shift < 95; shift++) {
                 BigInteger far = BigInteger.ONE.shiftLeft(shift);
-                Due.thrown(at + " 2^" + shift, ARGUMENT, () -> put(x, 0, 0, far));
-                Due.thrown(at + " -2^" + shift, ARGUMENT, () -> put(x, 0, 0, far.negate()));
+                Due.thrown(at + " 2^" + shift, ARGUMENT, () -> Numbers.put(x, 0, 0, far));
+                Due.thrown(at + " -2^" + shift, ARGUMENT, () -> Numbers.put(x, 0, 0, far.negate()));
             }
-            Due.thrown(at + " one below", ARGUMENT, () -> put(x, 1, 0, limit.negate().subtract(BigInteger.ONE)));
-            Due.thrown(at + " one above", ARGUMENT, () -> put(x, 1, 0, limit.add(BigInteger.ONE)));
+            Due.thrown(at + " one below", ARGUMENT, () -> Numbers.put(x, 1, 0, limit.negate().subtract(BigInteger.ONE)));
+            Due.thrown(at + " one above", ARGUMENT, () -> Numbers.put(x, 1, 0, limit.add(BigInteger.ONE)));
             Due.thrown(at + " greatest of all", ARGUMENT, () -> x.put(0, 0, MAX, -1));
             Due.thrown(at + " least of all", ARGUMENT, () -> x.put(0, 0, MIN, 0));
             long copied = 15 + p < 62 ? 1L << (15 + p) : 0;
@@ -223,7 +223,7 @@ public final class PromisesTest {
                 + " 00 12 34 56 FF FF FF FE FF 00 00 01 00 FF FF FF";
         Due.same("6: how many", x.save(), 33);
         Due.same("6: the bytes", printedBytes(x), withCheck(set));
-        Due.same("6: the set stays", number(x, 1, 0), BigInteger.valueOf(-0xFFFFFF));
+        Due.same("6: the set stays", Numbers.at(x, 1, 0), BigInteger.valueOf(-0xFFFFFF));
         Due.same("6: the steps stay", x.told(1), 0x01020304);
         Due.same("6: the tape stays", x.told(3), 0);
     }
@@ -232,9 +232,9 @@ public final class PromisesTest {
         for (int p = 0; p <= 64; p++) {
             WeightFile x = new WeightFile();
             x.take(p, 2);
-            BigInteger most = limit(p).subtract(BigInteger.ONE);
-            put(x, 0, 1, most);
-            put(x, 1, 0, most.negate());
+            BigInteger most = Numbers.limit(p).subtract(BigInteger.ONE);
+            Numbers.put(x, 0, 1, most);
+            Numbers.put(x, 1, 0, most.negate());
             int width = (p + 23) / 8;
             String zero = inBytes(BigInteger.ZERO, width);
             String set = "45 54 31 0A 00 00 00 00 00 00 00 02" + inBytes(BigInteger.valueOf(p), 1)
@@ -270,8 +270,8 @@ public final class PromisesTest {
         Due.same("10: the greatest set", x.copy(), MOST_PRINTED);
         x.take(64, 4096);
         Due.same("12: the greatest set", x.restore(), MOST_STEPS);
-        Due.same("12: its last weight", number(x, 0, 4095), limit(64).subtract(BigInteger.ONE));
-        Due.same("12: its last velocity", number(x, 1, 4095), BigInteger.ONE.subtract(limit(64)));
+        Due.same("12: its last weight", Numbers.at(x, 0, 4095), Numbers.limit(64).subtract(BigInteger.ONE));
+        Due.same("12: its last velocity", Numbers.at(x, 1, 4095), BigInteger.ONE.subtract(Numbers.limit(64)));
         x.copy();
         x.poke(MOST_PRINTED - 5, 0);
         Due.thrown("12: its last velocity is wrong", ARGUMENT, () -> x.restore());
@@ -397,10 +397,10 @@ public final class PromisesTest {
         x.take(33, 2);
         x.put(1, 1, 0, 5);
         Due.same("12: the steps", x.restore(), 31);
-        Due.same("12: weight 0", number(x, 0, 0), BigInteger.valueOf(0x8888_1234_5678L));
-        Due.same("12: weight 1", number(x, 0, 1), BigInteger.valueOf(-0x8888_1234_5678L));
-        Due.same("12: velocity 0", number(x, 1, 0), BigInteger.ONE);
-        Due.same("12: velocity 1", number(x, 1, 1), BigInteger.ONE.negate());
+        Due.same("12: weight 0", Numbers.at(x, 0, 0), BigInteger.valueOf(0x8888_1234_5678L));
+        Due.same("12: weight 1", Numbers.at(x, 0, 1), BigInteger.valueOf(-0x8888_1234_5678L));
+        Due.same("12: velocity 0", Numbers.at(x, 1, 0), BigInteger.ONE);
+        Due.same("12: velocity 1", Numbers.at(x, 1, 1), BigInteger.ONE.negate());
         Due.same("12: the steps", x.told(1), 31);
         Due.same("12: the tape is empty", x.told(3), 0);
         Due.same("12: what is printed stays", printedBytes(x), printed);
@@ -411,22 +411,22 @@ public final class PromisesTest {
     private static void promise12EveryP() {
         for (int p = 0; p <= 64; p++) {
             WeightFile x = new WeightFile();
-            BigInteger most = limit(p).subtract(BigInteger.ONE);
+            BigInteger most = Numbers.limit(p).subtract(BigInteger.ONE);
             BigInteger odd = new BigInteger("123456789123456789123456").mod(most);
             x.take(p, 2);
-            put(x, 0, 0, most);
-            put(x, 0, 1, odd);
-            put(x, 1, 0, most.negate());
-            put(x, 1, 1, odd.negate());
+            Numbers.put(x, 0, 0, most);
+            Numbers.put(x, 0, 1, odd);
+            Numbers.put(x, 1, 0, most.negate());
+            Numbers.put(x, 1, 1, odd.negate());
             x.count(p);
             x.save();
             x.copy();
             x.take(p, 2);
             Due.same("12: steps, p = " + p, x.restore(), p);
-            Due.same("12: greatest, p = " + p, number(x, 0, 0), most);
-            Due.same("12: odd, p = " + p, number(x, 0, 1), odd);
-            Due.same("12: least, p = " + p, number(x, 1, 0), most.negate());
-            Due.same("12: odd below 0, p = " + p, number(x, 1, 1), odd.negate());
+            Due.same("12: greatest, p = " + p, Numbers.at(x, 0, 0), most);
+            Due.same("12: odd, p = " + p, Numbers.at(x, 0, 1), odd);
+            Due.same("12: least, p = " + p, Numbers.at(x, 1, 0), most.negate());
+            Due.same("12: odd below 0, p = " + p, Numbers.at(x, 1, 1), odd.negate());
         }
     }
 
@@ -481,10 +481,10 @@ public final class PromisesTest {
             x.save();
             for (int n = 0; n < 4; n++) {
                 int at = 13 + n * width;
-                Due.same("12: too small, p = " + p, placeOfNumber(x, at, width, limit(p).negate()), at);
-                Due.same("12: least", placeOfNumber(x, at, width, BigInteger.ONE.subtract(limit(p))), 13 + 4 * width);
+                Due.same("12: too small, p = " + p, placeOfNumber(x, at, width, Numbers.limit(p).negate()), at);
+                Due.same("12: least", placeOfNumber(x, at, width, BigInteger.ONE.subtract(Numbers.limit(p))), 13 + 4 * width);
                 if (8 * width > 16 + p) {
-                    Due.same("12: too great, p = " + p, placeOfNumber(x, at, width, limit(p)), at);
+                    Due.same("12: too great, p = " + p, placeOfNumber(x, at, width, Numbers.limit(p)), at);
                 }
             }
         }
@@ -527,13 +527,13 @@ public final class PromisesTest {
         x.take(0, 1);
         feedAll(x, withCheck("45 54 31 0A 77 35 94 00 00 00 00 01 00 80 01 7F FF"));
         Due.same("12: the steps", x.restore(), MOST_STEPS);
-        Due.same("12: the weight", number(x, 0, 0), BigInteger.valueOf(-32767));
-        Due.same("12: the velocity", number(x, 1, 0), BigInteger.valueOf(32767));
+        Due.same("12: the weight", Numbers.at(x, 0, 0), BigInteger.valueOf(-32767));
+        Due.same("12: the velocity", Numbers.at(x, 1, 0), BigInteger.valueOf(32767));
         feedAll(x, withCheck("45 54 31 0A 77 35 94 01 00 00 00 01 00 00 00 00 00"));
         refused(x, "steps with the right check", 4);
         feedAll(x, withCheck("45 54 31 0A 00 00 00 00 00 00 00 01 00 00 00 80 00"));
         refused(x, "a velocity with the right check", 15);
-        Due.same("12: nothing changes", number(x, 0, 0), BigInteger.valueOf(-32767));
+        Due.same("12: nothing changes", Numbers.at(x, 0, 0), BigInteger.valueOf(-32767));
         Due.same("12: nothing changes", x.told(1), MOST_STEPS);
     }
 
@@ -676,27 +676,11 @@ public final class PromisesTest {
         pokeAll(x, 0, bytes);
     }
 
-    private static BigInteger limit(int p) {
-        return BigInteger.ONE.shiftLeft(15 + p);
-    }
-
-    private static void put(WeightFile x, int which, int i, BigInteger v) {
-        x.put(which, i, v.shiftRight(64).intValueExact(), v.longValue());
-    }
-
-    private static BigInteger number(WeightFile x, int which, int i) {
-        BigInteger v = BigInteger.valueOf(x.limb(which, i, 2));
-        for (int k = 1; k >= 0; k--) {
-            v = v.shiftLeft(32).add(BigInteger.valueOf(x.limb(which, i, k) & 0xFFFFFFFFL));
-        }
-        return v;
-    }
-
     private static String numbers(WeightFile x) {
         StringBuilder all = new StringBuilder();
         for (int which = 0; which < 2; which++) {
             for (int i = 0; i < x.told(0); i++) {
-                all.append(number(x, which, i)).append(' ');
+                all.append(Numbers.at(x, which, i)).append(' ');
             }
         }
         return all.toString();
