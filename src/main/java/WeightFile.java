@@ -192,7 +192,7 @@ public final class WeightFile {
         // The lowest number of bits + 1 bits, -2^bits, fits into them but is not strictly between.
         if (bits < 64) {
             boolean fits = (high == 0 || high == -1) && low >> bits == high;
-            return fits && !(high == -1 && low == -1L << bits);
+            return fits && low != -1L << bits;
         }
         int above = high >> (bits - 64);
         boolean fits = above == 0 || above == -1;

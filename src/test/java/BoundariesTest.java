@@ -40,6 +40,8 @@ public final class BoundariesTest {
         promise1NothingPrinted();
         promise2AllAreZero();
         promise2WithoutSteps();
+        promise2PIsNot0To64();
+        promise2ManyIsNot0To4096();
         promise3LowWithoutASign();
         promise3WhichIsNoneOfThese();
         promise3NoSuchParameter();
@@ -49,6 +51,7 @@ public final class BoundariesTest {
         promise4NoSuchParameter();
         promise4NoSuchLimb();
         promise5WhatTheyWere();
+        promise5NIsNot0To2000000000();
         promise6NoParameters();
         promise6FullSet();
         promise6MostParametersOfLeastP();
@@ -79,11 +82,6 @@ public final class BoundariesTest {
             WeightFile x = taken(p, 1);
             Due.same("p", x.told(2), p);
         }
-        for (int p : new int[] {-1, 65, MIN, MAX}) {
-            for (int many : new int[] {0, 1, 4096}) {
-                Due.thrown("take(" + p + ", " + many + ")", ARGUMENT, () -> new WeightFile().take(p, many));
-            }
-        }
     }
 
     // a number of PARAMETERS, 0 .. 4096, numbered from 0
@@ -96,11 +94,6 @@ public final class BoundariesTest {
                 Due.same("the last of " + many, x.limb(1, many - 1, 0), 0);
             }
             Due.thrown("one more than " + many, INDEX, () -> x.limb(0, many, 0));
-        }
-        for (int many : new int[] {-1, 4097, MIN, MAX}) {
-            for (int p : new int[] {0, 64, -1, 65}) {
-                Due.thrown("take(" + p + ", " + many + ")", ARGUMENT, () -> new WeightFile().take(p, many));
-            }
         }
     }
 
@@ -124,15 +117,12 @@ public final class BoundariesTest {
         }
     }
 
-    // and a number of STEPS, 0 .. 2000000000; promise 5: n is not 0 .. 2000000000
+    // and a number of STEPS, 0 .. 2000000000
     private static void termsSteps() {
         for (int n : new int[] {0, 1, MOST_STEPS - 1, MOST_STEPS}) {
             WeightFile x = new WeightFile();
             x.count(n);
             Due.same("steps", x.told(1), n);
-        }
-        for (int n : new int[] {-1, MOST_STEPS + 1, MIN, MAX}) {
-            Due.thrown("count(" + n + ")", ARGUMENT, () -> new WeightFile().count(n));
         }
     }
 
@@ -332,6 +322,24 @@ public final class BoundariesTest {
         }
     }
 
+    // IllegalArgumentException: p is not 0 .. 64
+    private static void promise2PIsNot0To64() {
+        for (int p : new int[] {-1, 65, MIN, MAX}) {
+            for (int many : new int[] {0, 1, 4096}) {
+                Due.thrown("take(" + p + ", " + many + ")", ARGUMENT, () -> new WeightFile().take(p, many));
+            }
+        }
+    }
+
+    // or many not 0 .. 4096
+    private static void promise2ManyIsNot0To4096() {
+        for (int many : new int[] {-1, 4097, MIN, MAX}) {
+            for (int p : new int[] {0, 64, -1, 65}) {
+                Due.thrown("take(" + p + ", " + many + ")", ARGUMENT, () -> new WeightFile().take(p, many));
+            }
+        }
+    }
+
     // becomes high * 2^64 + low, low being without a sign
     private static void promise3LowWithoutASign() {
         BigInteger whole = BigInteger.ONE.shiftLeft(64);
@@ -463,6 +471,16 @@ public final class BoundariesTest {
         Due.same("the most", x.count(MOST_STEPS), MOST_STEPS);
         Due.same("the most again", x.count(0), MOST_STEPS);
         Due.same("none again", x.count(0), 0);
+    }
+
+    // IllegalArgumentException: n is not 0 .. 2000000000
+    private static void promise5NIsNot0To2000000000() {
+        WeightFile x = new WeightFile();
+        x.count(9);
+        for (int n : new int[] {-1, MOST_STEPS + 1, MIN, MAX}) {
+            Due.thrown("count(" + n + ")", ARGUMENT, () -> x.count(n));
+            Due.same("the steps behind count(" + n + ")", x.told(1), 9);
+        }
     }
 
     // The set is printed as its bytes: how many (of no parameters)
