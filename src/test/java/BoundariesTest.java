@@ -308,7 +308,7 @@ public final class BoundariesTest {
         Due.same("zeros are printed", Shown.printed(x -> {
             x.take(64, 4096);
             x.save();
-        }), allPrinted(SetBytes.of(64, 0, SetBytes.zeros(4096))));
+        }), Shown.printed(SetBytes.of(64, 0, SetBytes.zeros(4096))));
     }
 
     // without steps
@@ -503,7 +503,7 @@ public final class BoundariesTest {
         Due.same("the full set", Shown.printed(x -> {
             full(x);
             x.save();
-        }), allPrinted(SetBytes.of(64, MOST_STEPS, numbers)));
+        }), Shown.printed(SetBytes.of(64, MOST_STEPS, numbers)));
     }
 
     private static void promise6MostParametersOfLeastP() {
@@ -519,7 +519,7 @@ public final class BoundariesTest {
         Due.same("4096 parameters, p = 0", Shown.printed(x -> {
             made.run(x);
             x.save();
-        }), allPrinted(SetBytes.of(0, 0, numbers)));
+        }), Shown.printed(SetBytes.of(0, 0, numbers)));
     }
 
     // Byte i of what is printed, 0 .. 255
@@ -834,11 +834,6 @@ public final class BoundariesTest {
         for (int i = 0; i < due.length; i++) {
             Due.same(what + ", byte " + i, x.poke(i, due[i]), due[i]);
         }
-    }
-
-    /** What Shown.printed answers where these bytes are printed, and no more. */
-    private static String allPrinted(byte[] row) {
-        return SetBytes.text(row) + "throws.IndexOutOfBoundsException";
     }
 
     /** Only for sets of few bytes, which 512 calls can ask. */

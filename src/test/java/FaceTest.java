@@ -30,6 +30,11 @@ public final class FaceTest {
 
     public static void main(String[] args) {
         Due.same("the class", Modifier.toString(WeightFile.class.getModifiers()), "public final");
+        Due.same("the class above it", WeightFile.class.getSuperclass(), Object.class);
+        Due.same("its interfaces", WeightFile.class.getInterfaces().length, 0);
+        Due.same("its package", WeightFile.class.getPackageName(), "");
+        Due.same("public classes inside", WeightFile.class.getClasses().length, 0);
+        Due.same("NONE", WeightFile.NONE, -1);
         Set<String> shown = new TreeSet<>();
         Set<String> shownNames = new TreeSet<>();
         Set<String> hiddenNames = new TreeSet<>();

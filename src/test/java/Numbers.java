@@ -15,6 +15,11 @@ final class Numbers {
         return limit(p).subtract(BigInteger.ONE);
     }
 
+    /** Where low is not below 0. */
+    static BigInteger of(int high, long low) {
+        return BigInteger.valueOf(high).shiftLeft(64).add(BigInteger.valueOf(low));
+    }
+
     static void put(WeightFile x, int which, int i, BigInteger v) {
         x.put(which, i, v.shiftRight(64).intValueExact(), v.longValue());
     }

@@ -56,7 +56,7 @@ public final class RestoreTest {
         Due.same(state + ": not refused", x.place(), -1);
         Due.same(state + ": the parameters stay", x.told(0), state.many);
         Due.same(state + ": p stays", x.told(2), state.p);
-        String printed = SetBytes.text(state.printed()) + "throws.IndexOutOfBoundsException";
+        String printed = Shown.printed(state.printed());
         Due.same(state + ": what is printed stays", Shown.printed(restored), printed);
         Due.same(state + ": the set is that of the tape", Shown.printed(y -> {
             restored.run(y);

@@ -66,6 +66,38 @@ final class SetBytes {
         return ~c;
     }
 
+    /** Where a set with this p and as many parameters refuses the bytes, -1 if it takes them. */
+    static int firstWrong(byte[] row, int p, int many) {
+        int width = width(p);
+        int checkAt = NUMBERS_AT + 2 * many * width;
+        if (row.length != checkAt + 4) {
+            return row.length;
+        }
+        byte[] right = of(p, 0, zeros(many));
+        int differs = Arrays.mismatch(row, 0, 4, right, 0, 4);
+        if (differs != -1) {
+            return differs;
+        }
+        if (new BigInteger(1, Arrays.copyOfRange(row, STEPS_AT, MANY_AT)).compareTo(BigInteger.valueOf(2000000000)) > 0) {
+            return STEPS_AT;
+        }
+        if (!Arrays.equals(row, MANY_AT, P_AT, right, MANY_AT, P_AT)) {
+            return MANY_AT;
+        }
+        if (row[P_AT] != p) {
+            return P_AT;
+        }
+        for (int at = NUMBERS_AT; at < checkAt; at += width) {
+            BigInteger v = new BigInteger(Arrays.copyOfRange(row, at, at + width));
+            if (v.abs().compareTo(Numbers.most(p)) > 0) {
+                return at;
+            }
+        }
+        byte[] mended = row.clone();
+        mendCheck(mended);
+        return Arrays.equals(row, mended) ? -1 : checkAt;
+    }
+
     /** A copy in which the bytes at a place are others, and the check is that of the whole. */
     static byte[] with(byte[] row, int at, int width, BigInteger v) {
         byte[] other = row.clone();

@@ -49,14 +49,22 @@ final class Shown {
         return bytes + answer(made(script), WeightFile::printed, many);
     }
 
+    /** What is told where these bytes are printed, and no more. */
+    static String printed(byte[] row) {
+        return SetBytes.text(row) + "throws.IndexOutOfBoundsException";
+    }
+
     static String tape(Script script) {
         int many = made(script).told(3);
-        String bytes = answers(script, many, (y, i) -> y.poke(i, 0));
-        return " tape " + many + " " + bytes + answer(made(script), (y, i) -> y.poke(i, 0), many)
+        return " tape " + many + " " + bytesOfTape(script) + answer(made(script), (y, i) -> y.poke(i, 0), many)
                 + " fed " + answer(made(script), (y, i) -> y.feed(0), 0);
     }
 
-    private static String place(Script script) {
+    static String bytesOfTape(Script script) {
+        return answers(script, made(script).told(3), (y, i) -> y.poke(i, 0));
+    }
+
+    static String place(Script script) {
         return " place " + made(script).place();
     }
 
